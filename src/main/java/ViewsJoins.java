@@ -45,18 +45,18 @@ public final class ViewsJoins {
     private static final int YES = 1;
 
     private final Graph[] graphs;
+    private final Reckoner reckoner;
     private final Tests tests;
     private final int[][] labels;
-    private final Reckoner reckoner;
     private int graphCount;
     // Grows with each change, so that a view reckoned at an older time is known to be stale.
     private int now;
 
     public ViewsJoins() {
         graphs = new Graph[MOST_GRAPHS];
-        tests = new Tests();
-        labels = new int[TABLES][MOST_NODES];
-        reckoner = new Reckoner(tests, labels);
+        reckoner = new Reckoner();
+        tests = reckoner.tests;
+        labels = reckoner.labels;
         graphCount = 0;
         now = 1;
         removeLabels();
@@ -382,6 +382,7 @@ public final class ViewsJoins {
         return choice >= 0 && choice <= 2;
     }
 
+    /** What is told of a graph comes behind this question, so that nothing stale is told. */
     private boolean isBroken(Graph it) {
         refresh(it, 0);
         return it.failure != UNBROKEN;
@@ -640,7 +641,7 @@ public final class ViewsJoins {
         }
 
         /** YES or NO, or the FAILURE below 0. Parts are elder tests, so the depth stays below their number. */
-        int say(Graph g, int what, int i, int t, int depth) {
+        private int say(Graph g, int what, int i, int t, int depth) {
             if (!has(t) || depth >= MOST_TESTS || !g.items(what).has(i)) {
                 return -SPENT;
             }
@@ -759,18 +760,13 @@ public final class ViewsJoins {
         static final int ONE = 1;
         static final int MODE_BREAKS = 1;
 
-        private final Tests tests;
-        private final int[][] labels;
+        final Tests tests = new Tests();
+        final int[][] labels = new int[TABLES][MOST_NODES];
         private final Heaps heaps = new Heaps();
         // For each node of a the number that it has in the view; or so for each LABEL.
         private final int[] places = new int[MOST_NODES];
         // For each node a bit for each other one to which an arc goes from it.
         private final long[] linked = new long[MOST_NODES];
-
-        Reckoner(Tests tests, int[][] labels) {
-            this.tests = tests;
-            this.labels = labels;
-        }
 
         void reckon(Graph view) {
             Graph a = view.a;

@@ -303,6 +303,24 @@ public final class PromisesTest {
         due("the 25th", x.view(2, 23, 0, 0, 0), FULL);
         due("graphs", x.count(0), 24);
         due("the whole chain is told", x.told(23, 0), 0);
+        ViewsJoins y = new ViewsJoins();
+        y.graph(2);
+        for (int g = 1; g < 24; g++) {
+            y.view(g % 2 == 0 ? 2 : 3, g - 1, 0, 0, 0);
+        }
+        y.arc(0, 0, 1, 6);
+        due("the last one of a chain, none asked before", y.up(23, 1, 0, 0), 0);
+        due("its value", y.value(23, 1, 0), 6);
+        y.set(0, 1, 0, 7);
+        due("after a change too", y.value(23, 1, 0), 7);
+        due("by way of all of them", y.up(23, 1, 0, 0), 0);
+        ViewsJoins z = new ViewsJoins();
+        z.graph(2);
+        z.view(2, 0, 0, 0, 0);
+        z.view(3, 0, 1, 0, 0);
+        z.set(0, 0, 0, 1);
+        z.arc(0, 0, 1, 4);
+        due("the second one of two, not asked before", z.end(2, 1, 0), 1);
     }
 
     private static void viewFilter() {
@@ -317,14 +335,18 @@ public final class PromisesTest {
         due("nodes above 2", x.view(1, 0, 0, -1, 0), 1);
         nodesAre(x, 1, 3, 4, 8);
         arcsAre(x, 1, new long[][] {{0, 1, 10}, {2, 1, 30}, {1, 1, -40}, {2, 0, 50}});
+        due("a no hides none", x.told(1, 3), 0);
         upsAre(x, 1, 0, 0, 0, 2, 4);
         upsAre(x, 1, 1, 0, 0, 2, 3, 4);
+        upsAre(x, 1, 0, 1, NONE, NONE, NONE);
+        upsAre(x, 1, 1, 1, NONE, NONE, NONE, NONE);
         due("and arcs above 10", x.view(1, 0, 0, 1, 1), 2);
         arcsAre(x, 2, new long[][] {{2, 1, 30}, {2, 0, 50}});
         due("all pass", x.view(1, 0, -1, -1, 0), 3);
         due("as it is", x.same(0, 3), 1);
         due("only arcs", x.view(1, 0, -1, 1, 0), 4);
         due("five nodes", x.told(4, 0), 5);
+        due("a no hides none of the arcs", x.told(4, 3), 0);
         arcsAre(x, 4, new long[][] {{0, 1, 20}, {4, 2, 30}, {4, 0, 50}});
         due("of a filter", x.view(1, 4, 0, -1, 0), 5);
         arcsAre(x, 5, new long[][] {{2, 1, 30}, {2, 0, 50}});
@@ -469,6 +491,13 @@ public final class PromisesTest {
         arcsAre(x, 7, new long[][] {});
         x.view(3, 0, 0, 0, 0);
         due("joined with the same", x.same(0, 8), 1);
+        x.graph(2);
+        x.arc(9, 0, 1, 1);
+        x.view(4, 0, 9, 0, 0);
+        arcsAre(x, 10, new long[][] {{1, 1, 7}});
+        x.view(3, 9, 0, 0, 0);
+        arcsAre(x, 11, new long[][] {{0, 1, 1}, {1, 1, 7}});
+        upsAre(x, 4, 0, 1, 0, 1, NONE);
     }
 
     private static void viewProduct() {
@@ -529,6 +558,7 @@ public final class PromisesTest {
         x.arc(0, 1, 1, -8);
         x.arc(0, 3, 0, 100);
         x.arc(0, 2, 2, -4);
+        x.arc(0, 0, 3, 200);
         x.label(2, 0, 7);
         x.label(2, 1, 0);
         x.label(2, 2, 7);
@@ -612,6 +642,38 @@ public final class PromisesTest {
         }
         x.view(6, 13, 0, 0, 0);
         due("121 arcs of lines", x.told(14, 5), LARGE);
+        x.graph(1);
+        for (int e = 0; e < 10; e++) {
+            x.arc(15, 0, 0, e);
+        }
+        x.view(6, 15, 0, 0, 0);
+        due("100 arcs of lines", x.told(16, 1), 100);
+        x.graph(1);
+        for (int e = 0; e < 12; e++) {
+            x.arc(17, 0, 0, e);
+        }
+        x.view(5, 15, 17, 0, 0);
+        due("120 arcs of BOTH", x.told(18, 1), 120);
+        x.view(5, 15, 17, 2, 0);
+        due("142 arcs of both sorts", x.told(19, 5), LARGE);
+        x.view(3, 16, 18, 0, 0);
+        due("an arc of b that a has does not count", x.told(20, 1), 100);
+        linesTooMany();
+    }
+
+    private static void linesTooMany() {
+        ViewsJoins x = new ViewsJoins();
+        x.graph(2);
+        x.graph(2);
+        for (int e = 0; e < 20; e++) {
+            x.arc(0, 0, 1, e);
+        }
+        x.view(5, 0, 1, 1, 0);
+        x.view(6, 2, 0, 0, 0);
+        due("40 nodes of lines", x.told(3, 0), 40);
+        due("no arcs", x.told(3, 1), 0);
+        x.arc(0, 0, 1, 20);
+        due("42 nodes of lines, no arcs", x.told(3, 5), LARGE);
     }
 
     private static void viewOfBroken() {
@@ -810,11 +872,13 @@ public final class PromisesTest {
         upsAre(x, 5, 1, 0, 0, 0, 0, 1, 1, 1, NONE, NONE, NONE, NONE, 0, 0, 1, 1);
         upsAre(x, 5, 1, 1, NONE, NONE, NONE, NONE, NONE, NONE, 0, 1, 0, 1, 0, 1, 0, 1);
         upsAre(x, 6, 0, 0, 0, 1);
+        upsAre(x, 6, 0, 1, NONE, NONE);
         upsAre(x, 6, 1, 0, 1, 1);
         upsAre(x, 6, 1, 1, NONE, NONE);
         upsAre(x, 7, 0, 0, 1, 0);
         upsAre(x, 7, 1, 0, 0, 1);
         upsAre(x, 7, 0, 1, NONE, NONE);
+        upsAre(x, 7, 1, 1, NONE, NONE);
         due("a base graph", x.up(0, 0, 0, 0), BAD);
         due("graph 8", x.up(8, 0, 0, 0), BAD);
         due("what 2", x.up(2, 2, 0, 0), BAD);
@@ -922,6 +986,18 @@ public final class PromisesTest {
         x.set(6, 0, 0, 1);
         x.set(6, 0, 2, 1);
         due("TO other", x.same(0, 6), 0);
+        x.graph(1);
+        x.graph(2);
+        x.graph(2);
+        due("only nodes fewer", x.same(7, 8), 0);
+        due("only nodes more", x.same(8, 7), 0);
+        due("alike", x.same(8, 9), 1);
+        x.set(8, 0, 0, 1);
+        due("only node 0 other", x.same(8, 9), 0);
+        x.set(9, 0, 0, 1);
+        x.arc(9, 0, 0, 0);
+        due("only arcs fewer", x.same(8, 9), 0);
+        due("only arcs more", x.same(9, 8), 0);
         due("a broken", x.same(1, 0), BROKEN);
         due("b broken", x.same(0, 1), BROKEN);
         due("both", x.same(1, 1), BROKEN);
@@ -931,7 +1007,7 @@ public final class PromisesTest {
             due("wrong b ahead of BROKEN", x.same(1, wrong), BAD);
             due("wrong a ahead of BROKEN", x.same(wrong, 1), BAD);
         }
-        due("graph 7", x.same(0, 7), BAD);
+        due("graph 10", x.same(0, 10), BAD);
     }
 
     private static void promise16Reach() {
@@ -973,6 +1049,7 @@ public final class PromisesTest {
         check.at("promise 17");
         askNumbers();
         askArcs();
+        askDeep();
         askParts();
         askBudgets();
         ViewsJoins x = withBrokenView();
@@ -1056,6 +1133,28 @@ public final class PromisesTest {
         x.set(0, 0, 2, 0);
         x.set(0, 0, 1, 1);
         due("the first one ends it", x.ask(0, 0, 0, 6), 1);
+        ViewsJoins y = withNodes(0, 1);
+        y.arc(0, 0, 1, 0);
+        y.test(0, 0, 0, 0);
+        y.test(8, 0, 0, 0);
+        due("arc 0 is one of them", y.ask(0, 0, 0, 1), 1);
+        due("not the way back", y.ask(0, 0, 1, 1), 0);
+    }
+
+    /** Twenty tests, each a part of the next one. */
+    private static void askDeep() {
+        int[] sorts = {4, 5, 6, 7, 8};
+        for (int sort : sorts) {
+            ViewsJoins x = withNodes(1, 1);
+            x.arc(0, 0, 0, 1);
+            x.test(0, sort == 6 ? 1 : 0, 0, 0);
+            for (int t = 1; t < 20; t++) {
+                x.test(sort, 0, sort == 5 || sort == 6 ? 0 : t - 1, t - 1);
+            }
+            int said = sort == 4 || sort == 6 ? 0 : 1;
+            due("deep by " + sort + ", node", x.ask(0, 0, 0, 19), said);
+            due("deep by " + sort + ", arc", x.ask(0, 1, 0, 19), said);
+        }
     }
 
     private static void askParts() {
@@ -1168,5 +1267,12 @@ public final class PromisesTest {
         due("base", x.told(3, 2), 0);
         due("up of a base one", x.up(3, 0, 0, 0), BAD);
         due("in all", x.clear(), 4);
+        ViewsJoins y = withBrokenView();
+        due("broken", y.told(1, 5), DIVISION);
+        y.clear();
+        y.graph(1);
+        y.graph(2);
+        due("a base one in a broken one's place", y.told(1, 5), 0);
+        nodesAre(y, 1, 0, 0);
     }
 }
