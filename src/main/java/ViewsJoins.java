@@ -418,18 +418,16 @@ public final class ViewsJoins {
             return i >= 0 && i < size;
         }
 
-        boolean isFull() {
-            return size >= values.length;
-        }
-
-        void add(long v, int inA, int inB) {
-            if (isFull()) {
-                return;
+        /** Whether there was room for one more. */
+        boolean add(long v, int inA, int inB) {
+            if (size >= values.length) {
+                return false;
             }
             values[size] = v;
             sourcesInA[size] = inA;
             sourcesInB[size] = inB;
             size++;
+            return true;
         }
 
         int[] sources(int which) {
@@ -518,21 +516,19 @@ public final class ViewsJoins {
         }
 
         void addNode(long v, int inA, int inB) {
-            if (nodes.isFull()) {
+            if (!nodes.add(v, inA, inB)) {
                 failure = LARGE;
-                return;
             }
-            nodes.add(v, inA, inB);
         }
 
         void addArc(int tail, int head, long v, int inA, int inB) {
-            if (arcs.isFull()) {
+            int e = arcs.size;
+            if (!arcs.add(v, inA, inB)) {
                 failure = LARGE;
                 return;
             }
-            from[arcs.size] = tail;
-            to[arcs.size] = head;
-            arcs.add(v, inA, inB);
+            from[e] = tail;
+            to[e] = head;
         }
 
         int countFrom(int node) {
